@@ -370,7 +370,7 @@ public final class WorthLadder {
         if (!world.has(SALES, sale)) {
             return NONE;
         }
-        long withAll = worth(sale);
+        long withAll = worthInOrder(sale, isTurned());
         int bits = 0;
         for (int other = 0; other < world.tally[SALES]; other++) {
             if (other == sale) {
@@ -390,7 +390,7 @@ public final class WorthLadder {
     }
 
     public long due(int sale) {
-        long worth = worth(sale);
+        long worth = worthInOrder(sale, isTurned());
         return worth < 0 ? worth : dutyOn(worth);
     }
 
@@ -855,8 +855,10 @@ public final class WorthLadder {
                     readAssist();
                     break;
                 case W_SALE:
-                    readSale();
-                    // Whether another EXTRA comes shows only at the semicolon: they take it.
+                    readSale(draft.sale[draft.tally[SALES]]);
+                    readExtras(draft.sale[draft.tally[SALES]]);
+                    draft.tally[SALES]++;
+                    // That no more EXTRAS come shows at the semicolon: it is taken already.
                     return;
                 case W_RESOLD:
                     readResold();
@@ -897,8 +899,10 @@ public final class WorthLadder {
         private void readGood() {
             int[] row = draft.good[draft.tally[GOODS]];
             giveName(GOODS);
-            row[GROUP] = numberAfter(W_GROUP, 0, DIGIT_MOST);
-            row[LAND] = numberAfter(W_LAND, 0, DIGIT_MOST);
+            expect(W_GROUP);
+            row[GROUP] = number(0, DIGIT_MOST);
+            expect(W_LAND);
+            row[LAND] = number(0, DIGIT_MOST);
             row[COST] = 0;
             row[PROFIT] = 0;
             draft.tally[GOODS]++;
@@ -907,7 +911,8 @@ public final class WorthLadder {
         private void readAssist() {
             int[] row = draft.assist[draft.tally[ASSISTS]];
             giveName(ASSISTS);
-            row[AMOUNT] = numberAfter(W_WORTH, 1, NUMBER_MOST);
+            expect(W_WORTH);
+            row[AMOUNT] = number(1, NUMBER_MOST);
             row[SPREAD] = 0;
             tokens.next();
             if (tokens.word == W_BY) {
@@ -918,23 +923,22 @@ public final class WorthLadder {
             draft.tally[ASSISTS]++;
         }
 
-        private void readSale() {
-            int sale = draft.tally[SALES];
-            int[] row = draft.sale[sale];
+        private void readSale(int[] row) {
             Arrays.fill(row, 0);
             giveName(SALES);
-            draft.saleName[sale] = tokens.value;
+            draft.saleName[draft.tally[SALES]] = tokens.value;
             row[GOOD] = toldOf(GOODS);
             row[SELLER] = toldOf(PARTIES);
             row[BUYER] = toldOf(PARTIES);
             if (row[SELLER] == row[BUYER]) {
                 fail(FAULT_BOUNDS);
             }
-            row[PIECES] = numberAfter(W_PIECES, 1, NUMBER_MOST);
-            row[PRICE] = numberAfter(W_PRICE, 1, NUMBER_MOST);
-            row[DAY] = numberAfter(W_DAY, 0, DAY_MOST);
-            readExtras(row);
-            draft.tally[SALES]++;
+            expect(W_PIECES);
+            row[PIECES] = number(1, NUMBER_MOST);
+            expect(W_PRICE);
+            row[PRICE] = number(1, NUMBER_MOST);
+            expect(W_DAY);
+            row[DAY] = number(0, DAY_MOST);
         }
 
         private void readExtras(int[] row) {
@@ -966,9 +970,12 @@ public final class WorthLadder {
         private void readResold() {
             int[] row = draft.resale[draft.tally[RESALES]];
             row[ROW_GOOD] = toldOf(GOODS);
-            row[ROW_PIECES] = numberAfter(W_PIECES, 1, NUMBER_MOST);
-            row[ROW_PRICE] = numberAfter(W_PRICE, 1, NUMBER_MOST);
-            row[ROW_DAY] = numberAfter(W_DAY, 0, DAY_MOST);
+            expect(W_PIECES);
+            row[ROW_PIECES] = number(1, NUMBER_MOST);
+            expect(W_PRICE);
+            row[ROW_PRICE] = number(1, NUMBER_MOST);
+            expect(W_DAY);
+            row[ROW_DAY] = number(0, DAY_MOST);
             draft.tally[RESALES]++;
         }
 
@@ -977,15 +984,19 @@ public final class WorthLadder {
             if (row[COST] != 0) {
                 fail(FAULT_AGAIN);
             }
-            row[COST] = numberAfter(W_COST, 1, NUMBER_MOST);
-            row[PROFIT] = numberAfter(W_PROFIT, 0, PERCENT_MOST);
+            expect(W_COST);
+            row[COST] = number(1, NUMBER_MOST);
+            expect(W_PROFIT);
+            row[PROFIT] = number(0, PERCENT_MOST);
         }
 
         private void readBand() {
             int band = draft.tally[BANDS];
             int least = band == 0 ? BAND_LEAST : draft.band[band - 1][FROM] + 1;
-            draft.band[band][FROM] = numberAfter(W_FROM, least, NUMBER_MOST);
-            draft.band[band][LESS] = numberAfter(W_LESS, 0, LESS_MOST);
+            expect(W_FROM);
+            draft.band[band][FROM] = number(least, NUMBER_MOST);
+            expect(W_LESS);
+            draft.band[band][LESS] = number(0, LESS_MOST);
             draft.tally[BANDS]++;
         }
 
@@ -1001,12 +1012,11 @@ public final class WorthLadder {
             }
         }
 
-        private int numberAfter(int word, int least, int most) {
+        private void expect(int word) {
             tokens.next();
             if (tokens.word != word) {
                 fail(FAULT_FORM);
             }
-            return number(least, most);
         }
 
         private int number(int least, int most) {
@@ -1350,34 +1360,55 @@ public final class WorthLadder {
         }
 
         void ask(int sale, int method) {
-            failure = 0;
             source = NONE;
             if (method == 1) {
                 value = ledger.owns[sale];
                 failure = ownFailures[sale];
-            } else {
-                askOther(sale, method);
-                // METHODS 2 to 6 have one reason each.
-                failure = value == NONE ? method * 10 + 1 : 0;
+                return;
             }
-        }
-
-        private void askOther(int sale, int method) {
             if (method == 4) {
                 source = ledger.resoldPrices[sale];
                 value = ledger.resoldWorth(sale);
             } else if (method == 5) {
                 value = ledger.madeWorth(sale);
             } else {
-                askSales(sale, method);
+                bringLeast(sale, sourcesFor(sale, method));
             }
+            // METHODS 2 to 6 have one reason each.
+            failure = value == NONE ? method * 10 + 1 : 0;
         }
 
-        private void askSales(int sale, int method) {
-            boolean levelAlone = method != 6 && hasLevel(sale, method);
+        /** SALES from which METHOD 2, 3 or 6 may bring, as bits. */
+        private int sourcesFor(int sale, int method) {
+            int sources = 0;
+            int level = 0;
+            for (int other = 0; other < world.tally[SALES]; other++) {
+                if (!ledger.isAnother(sale, other) || ownFailures[other] != 0
+                    || !fits(sale, other, method)) {
+                    continue;
+                }
+                sources |= 1 << other;
+                if (ledger.levels[sale] == ledger.levels[other]) {
+                    level |= 1 << other;
+                }
+            }
+            return method == 6 || level == 0 ? sources : level;
+        }
+
+        private boolean fits(int sale, int other, int method) {
+            int good = world.sale[sale][GOOD];
+            int otherGood = world.sale[other][GOOD];
+            if (method == 6) {
+                return world.good[good][GROUP] == world.good[otherGood][GROUP];
+            }
+            boolean isRightGood = method == 2 ? good == otherGood : world.areSimilar(good, otherGood);
+            return isRightGood && ledger.isInWindow(sale, other);
+        }
+
+        private void bringLeast(int sale, int sources) {
             value = NONE;
             for (int other = 0; other < world.tally[SALES]; other++) {
-                if (!serves(sale, other, method) || levelAlone && !areLevel(sale, other)) {
+                if ((sources >> other & 1) == 0) {
                     continue;
                 }
                 long worth = ledger.brought(sale, other);
@@ -1386,32 +1417,6 @@ public final class WorthLadder {
                     value = worth;
                 }
             }
-        }
-
-        private boolean hasLevel(int sale, int method) {
-            for (int other = 0; other < world.tally[SALES]; other++) {
-                if (areLevel(sale, other) && serves(sale, other, method)) {
-                    return true;
-                }
-            }
-            return false;
-        }
-
-        private boolean areLevel(int sale, int other) {
-            return ledger.levels[sale] == ledger.levels[other];
-        }
-
-        private boolean serves(int sale, int other, int method) {
-            if (!ledger.isAnother(sale, other) || ownFailures[other] != 0) {
-                return false;
-            }
-            int good = world.sale[sale][GOOD];
-            int otherGood = world.sale[other][GOOD];
-            if (method == 6) {
-                return world.good[good][GROUP] == world.good[otherGood][GROUP];
-            }
-            boolean fits = method == 2 ? good == otherGood : world.areSimilar(good, otherGood);
-            return fits && ledger.isInWindow(sale, other);
         }
 
         void climb(int sale, boolean isTurned) {
