@@ -485,10 +485,10 @@ public final class WorthLadder {
     }
 
     public int resell(int good, int pieces, int price, int day) {
-        boolean told = pieces >= 1 && pieces <= NUMBER_MOST && price >= 1 && price <= NUMBER_MOST
+        boolean inBounds = pieces >= 1 && pieces <= NUMBER_MOST && price >= 1 && price <= NUMBER_MOST
             && day >= 0 && day <= DAY_MOST;
         int row = world.tally[RESALES];
-        if (!told || !world.has(GOODS, good) || row >= RESALES_MOST) {
+        if (!inBounds || !world.has(GOODS, good) || row >= RESALES_MOST) {
             return NONE;
         }
         world.resale[row][ROW_GOOD] = good;

@@ -532,6 +532,7 @@ public final class PromisesTest {
         x.price(1, 20);
         due("passes: by the last TEST", x.passes(1), 1);
         prices("as many as there may be", 1, 10, 10, 20);
+        due("needs: by the last TEST", x.needs(1), 0);
         told(PEOPLE + GOODS + "sale sa gc pc pd pieces 1 price 1 day 1;");
         for (int v : new int[] {-1, 1, LOW, HIGH}) due("test(" + v + ", -1)", x.test(v, -1), -1);
         due("test(0, -2)", x.test(0, -2), -1);
