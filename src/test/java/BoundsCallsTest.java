@@ -406,6 +406,24 @@ public final class BoundsCallsTest {
         due("the last: test(0, 9)", x.test(0, 9), 7);
         due("one too many: test(0, 10)", x.test(0, 10), -2);
 
+        StringBuilder ten = new StringBuilder("party a;party b;good g group1land1;made g cost 7 profit 0;");
+        for (char c = 'q'; c <= 'z'; c++) ten.append("sale ").append(c).append(" g a b pieces1price").append(10 + c - 'q').append("day1;");
+        told(ten + "resold g pieces1price11day1;near 0;");
+        for (int s = 0; s < 10; s++) {
+            due("all SALES and both METHODS: test(" + s + ", -1)", x.test(s, -1), 11);
+            due("the first: test(" + s + ", 0)", x.test(s, 0), s == 0 ? 11 : 10);
+            due("the last SALE's: test(" + s + ", 8)", x.test(s, 8), s == 9 ? 18 : 19);
+            due("METHOD 4's: test(" + s + ", 9)", x.test(s, 9), 8);
+            due("METHOD 5's: test(" + s + ", 10)", x.test(s, 10), 7);
+            due("no more: test(" + s + ", 11)", x.test(s, 11), -2);
+        }
+        x.price(4, 7);
+        due("the last TEST is near: passes", x.passes(4), 1);
+        due("the last TEST is near: needs", x.needs(4), 0);
+        due("eleven PRICES", x.prices(4, 0), 11);
+        due("the least", x.prices(4, 1), 7);
+        due("the greatest", x.prices(4, 2), 19);
+
         Check.says("20: passes: 1 it PASSES, 0 not; NONE: none such");
         told("party pa;party pb;party pc;good ga group 1 land 1;sale sa ga pa pb pieces 1 price 9 day 5;sale sb ga pa pc pieces 1 price 9 day 5;sale sc ga pa pc pieces 1 price 1 day 999;");
         due("near: passes(0)", x.passes(0), 1);
@@ -543,6 +561,9 @@ public final class BoundsCallsTest {
         Check.due("a NAME of one letter", Check.report(x), "s by 1 worth 1 ; ");
         x.bind(0, true);
         Check.due("it fails", Check.report(x), "s fails ; ");
+        x.resell(0, 1, 1, 5);
+        Check.due("a WORTH of 0", Check.report(x), "s by 4 worth 0 ; ");
+        x.undo();
         due("the last byte", x.report(9), ' ');
         due("the byte ahead of that", x.report(8), ';');
         due("behind the last", x.report(10), -2);

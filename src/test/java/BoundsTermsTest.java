@@ -142,6 +142,10 @@ public final class BoundsTermsTest {
         shares("just 1", 0, 1, 1, 0);
         x.spread(0, 401);
         shares("just below 1", 0, 0, 1, 0);
+        x.spread(0, 10);
+        shares("by 10 again", 0, 40, 60, 0);
+        x.spread(0, 0);
+        shares("first", 0, 100, 0, 0);
         told(P + G + "assist mo worth 9999 by 9999;sale sa ga pc pd pieces 9999 price 1 day 0 uses mo;sale sb ga pc pd pieces 9999 price 1 day 0 uses mo;");
         shares("the greatest", 0, 9999, 0);
         told(P + G + "assist mo worth 9999 by 9998;sale sa ga pc pd pieces 9997 price 1 day 0 uses mo;sale sb ga pc pd pieces 9999 price 1 day 0 uses mo;");
@@ -163,6 +167,9 @@ public final class BoundsTermsTest {
         told(P + G + "assist ma worth 9999 first;assist mb worth 9999 first;assist mc worth 9999 first;assist md worth 9999 by 9999;"
             + "sale sa ga pc pd pieces 9999 price 9999 day 0 royalty 99 fee 9999 packing 9999 freight 9999 uses ma uses mb uses mc uses md;");
         due("the greatest", x.own(0), 198990198L + 39996);
+        told(P + G + "made ga cost 1 profit 0;sale sa ga pc pd pieces 1 price 1 day 0 fee 20 packing 300 freight 4000;");
+        due("each of them once", x.own(0), 4321);
+        due("METHOD 5 without the fee", x.by(0, 5), 4301);
     }
 
     private static void methodOneFails() {
@@ -269,6 +276,19 @@ public final class BoundsTermsTest {
         due("why", x.why(0, 0), 13);
         due("prices", x.prices(0, 0), 0);
         due("needs", x.needs(0), -2);
+        Check.says("Near: TESTS of another SALE don't count");
+        told(P + G + "sale sa gd pc pd pieces 1 price 50 day 5;sale sb ga pa pb pieces 1 price 50 day 5;sale sc ga pc pd pieces 1 price 50 day 5;sale sd ga pc pd pieces 1 price 50 day 5;");
+        due("TESTS of sb", x.test(1, -1), 2);
+        due("no TEST: passes", x.passes(0), 0);
+        due("no TEST: needs", x.needs(0), -2);
+        due("no TEST: prices", x.prices(0, 0), 0);
+        due("near, among KIN: needs", x.needs(1), 0);
+        due("near, among no KIN: needs", x.needs(2), 0);
+        x.relate(0, 1, false);
+        x.price(2, 53);
+        // TESTS for sc are 50 and 50, for sd 50 and 53.
+        due("6 of 100: needs", x.needs(2), 6);
+        due("none apart: needs", x.needs(3), 0);
         Check.says("Near: one TEST is enough");
         told(P + G + "sale sa ga pa pb pieces 1 price 50 day 5;sale sb ga pc pd pieces 1 price 10 day 5;sale sc ga pc pd pieces 1 price 90 day 5;sale sd ga pc pd pieces 1 price 50 day 5;near 0;");
         due("the last of three", x.passes(0), 1);
@@ -386,6 +406,8 @@ public final class BoundsTermsTest {
         due("twelve rows, six of each", x.base(0, 4), 49);
         told(sale + "resold ga pieces 9 price 50 day 4;resold ga pieces 1 price 60 day 5;resold gb pieces 9 price 70 day 5;");
         due("PIECES of other DAYS and GOODS don't count", x.base(0, 4), 60);
+        told(sale + "resold ga pieces 9 price 50 day 4;resold ga pieces 1 price 50 day 5;resold ga pieces 2 price 60 day 5;resold gb pieces 9 price 50 day 5;");
+        due("PIECES of other DAYS and GOODS don't count at one PRICE either", x.base(0, 4), 60);
         told(sale.replace("ga pc", "gb pc") + "resold ga pieces 2 price 50 day 5;resold ga pieces 2 price 60 day 5;");
         due("of like ones the least, of SIMILAR GOODS too", x.base(0, 4), 50);
     }

@@ -34,6 +34,8 @@ public final class BoundsTextTest {
         namesThatCannotBe();
         namesAlike();
         namesAhead();
+        allNames();
+        wordsOutOfPlace();
         leastPlace();
         theEnd();
         Check.finish();
@@ -556,6 +558,51 @@ public final class BoundsTextTest {
         fault(3, ahead + "sale sz |sz pa pb pieces 1 price 1 day 1;");
         WorthLadder x = Check.told(ahead);
         due("a NAME of a TEXT ahead is none told", Check.tell(x, "kin pa pb;"), Check.fault(4, 3));
+    }
+
+    /** As many NAMES as there may be: none is lost, each is known for what it is, and none leads astray behind a FAULT. */
+    private static void allNames() {
+        Check.says("no two NAMES are alike; a NAME told of one ahead: 26 of them, as many as there may be");
+        String rest = times(6, "good g# group1land1;") + times(4, "assist m# worth1first;") + times(10, "sale s# gf pa pe pieces1price1day1;");
+        String all = times(6, "party p#;") + rest;
+        String fewer = times(5, "party p#;") + rest;
+        taken(all, 26);
+        for (String sort : new String[] {"p", "g", "m", "s"}) {
+            int size = sort.equals("p") ? 5 : sort.equals("g") ? 6 : sort.equals("m") ? 4 : 10;
+            for (int i = 0; i < size; i++) {
+                String name = sort + (char) ('a' + i);
+                fault(2, fewer + "party |" + name + ";");
+                if (sort.equals("g")) taken(all + "made " + name + " cost 1 profit 1;", 27);
+                else fault(3, all + "made |" + name + " cost 1 profit 1;");
+                if (sort.equals("p")) taken(all + "kin " + name + " pf;", 27);
+                else fault(3, all + "kin |" + name + " pf;");
+            }
+        }
+        String last = times(6, "party p#;") + times(5, "good g# group1land1;") + times(4, "assist m# worth1first;") + times(10, "sale s# ge pa pe pieces1price1day1;") + "good gf group1land1;";
+        taken(last + "resold gf pieces1price1day1;", 27);
+        Check.says("what a TEXT ahead told is gone: by, made, EXTRAS");
+        String short1 = "party pa;party pb;good ga group 1 land 1;assist mo worth 5 %s;sale sa ga pa pb pieces 1 price 1 day 1%s;%s";
+        WorthLadder x = Check.told(String.format(short1, "by 7", " bound royalty 1 fee 1 packing 1 freight 1 uses mo", "made ga cost 5 profit 5;"));
+        due("told anew", Check.tell(x, String.format(short1, "first", "", "")), 5);
+        due("first", x.assist(0, 1), 0);
+        for (int k = 6; k <= 11; k++) due("sale(0, " + k + ")", Check.sale(x, 0, k), 0);
+        due("not made", x.by(0, 5), -2 - 51);
+    }
+
+    private static void wordsOutOfPlace() {
+        Check.says("a LINE begins with none but its WORD, an EXTRA too");
+        String ahead = P + G + A;
+        List<String> lines = List.of("party", "kin", "good", "assist", "sale", "resold", "made", "band", "near", "window", "margin", "duty");
+        List<String> extras = List.of("bound", "royalty", "fee", "packing", "freight", "uses");
+        for (String word : Model.WORDS) {
+            if (!lines.contains(word)) fault(1, ahead + "|" + word + " 5;");
+            if (!extras.contains(word)) fault(1, ahead + SALE + " |" + word + " 5;");
+            if (lines.contains(word)) fault(1, ahead + word + "|");
+        }
+        for (String name : OF_EACH) {
+            fault(1, ahead + SALE + ";|" + name + " 5;");
+            fault(1, ahead + SALE + " |" + name + " 5;");
+        }
     }
 
     // ---- FAULTS

@@ -10,7 +10,12 @@ public final class ModelTest {
     private final Model m = new Model();
     private final StringBuilder run = new StringBuilder();
 
-    private ModelTest(long seed) { chance = new Random(seed); }
+    private final boolean isEdgy;
+
+    private ModelTest(long seed) {
+        chance = new Random(seed);
+        isEdgy = chance.nextInt(3) == 0;
+    }
 
     public static void main(String[] args) {
         int runs = args.length > 0 ? Integer.parseInt(args[0]) : 600;
@@ -28,6 +33,18 @@ public final class ModelTest {
     private int from(int least, int most) { return least + up(most - least + 1); }
 
     private boolean in(int n) { return up(n) == 0; }
+
+    /** In one run of three numbers stand at their bounds more often than between them. */
+    private int bounded(int least, int most, int usual) {
+        if (!isEdgy || in(2)) return usual;
+        int[] edges = {least, least, least + 1, most - 1, most, most, (least + most) / 2};
+        return edges[up(edges.length)];
+    }
+
+    /** The same for calls, which may go beyond a bound. */
+    private int asked(int least, int most, int usual) {
+        return isEdgy && in(6) ? in(2) ? least - 1 : most + 1 : bounded(least, most, usual);
+    }
 
     // ---- texts
 
@@ -52,21 +69,24 @@ public final class ModelTest {
         }
         int spread = in(3) ? 3 : 2;
         for (int i = 0; i < goods; i++) lines.add("good " + good(i) + " group " + from(1, spread) + " land " + from(1, 2));
-        for (int i = 0; i < assists; i++) lines.add("assist " + assist(i) + " worth " + amount() + (in(3) ? " first" : " by " + from(1, 120)));
+        for (int i = 0; i < assists; i++) lines.add("assist " + assist(i) + " worth " + amount(1) + (in(3) ? " first" : " by " + bounded(1, 9999, from(1, 120))));
         int sales = from(1, in(10) ? 11 : 9);
         int days = in(2) ? 20 : 80;
         int price = from(10, 200);
         for (int i = 0; i < sales; i++) lines.add(sale(i, parties, goods, assists, days, price));
         for (int i = up(in(8) ? 14 : 6); i > 0; i--) {
-            lines.add("resold " + good(up(goods)) + " pieces " + from(1, 9) + " price " + (price + from(0, 4) * 5) + " day " + up(days * 2));
+            lines.add("resold " + good(up(goods)) + " pieces " + bounded(1, 9999, from(1, 9)) + " price " + bounded(1, 9999, price + from(0, 4) * 5)
+                + " day " + bounded(0, 999, up(days * 2)));
         }
-        for (int i = 0; i < goods; i++) if (in(4)) lines.add("made " + good(i) + " cost " + from(price / 2 + 1, price + 20) + " profit " + up(30));
+        for (int i = 0; i < goods; i++) if (in(4)) {
+            lines.add("made " + good(i) + " cost " + bounded(1, 9999, from(price / 2 + 1, price + 20)) + " profit " + bounded(0, 99, up(30)));
+        }
         int at = 1;
-        for (int i = up(in(10) ? 6 : 4); i > 0; i--) lines.add("band from " + (at += from(1, 25)) + " less " + (in(4) ? from(0, 90) : up(15)));
-        if (in(3)) lines.add("near " + up(51));
-        if (in(3)) lines.add("window " + from(1, 40));
-        if (in(3)) lines.add("margin " + up(91));
-        if (in(3)) lines.add("duty " + up(100));
+        for (int i = up(in(10) ? 6 : 4); i > 0; i--) lines.add("band from " + (at += from(1, 25)) + " less " + bounded(0, 90, in(4) ? from(0, 90) : up(15)));
+        if (in(3)) lines.add("near " + bounded(0, 50, up(51)));
+        if (in(3)) lines.add("window " + bounded(1, 999, from(1, 40)));
+        if (in(3)) lines.add("margin " + bounded(0, 90, up(91)));
+        if (in(3)) lines.add("duty " + bounded(0, 99, up(100)));
         if (in(8)) lines.add(up(lines.size()), lines.get(up(lines.size())));
         if (in(8)) lines.add(lines.remove(up(lines.size())));
         String gap = in(6) ? "\n" : "";
@@ -75,19 +95,20 @@ public final class ModelTest {
         return in(4) ? spoilt(text) : text.toString();
     }
 
-    private int amount() { return in(10) ? from(1, 9999) : from(1, 300); }
+    private int amount(int least) { return bounded(least, 9999, in(10) ? from(1, 9999) : from(1, 300)); }
 
     private String sale(int i, int parties, int goods, int assists, int days, int price) {
         int a = up(parties);
         StringBuilder t = new StringBuilder("sale s" + (char) ('a' + i) + (in(9) ? "long" : "") + " " + good(up(goods)));
         t.append(" ").append(party(a)).append(" ").append(party((a + 1 + up(parties - 1)) % parties));
-        t.append(" pieces ").append(in(15) ? from(1, 9999) : from(1, 60)).append(" price ").append(in(15) ? from(1, 9999) : price + up(15));
-        t.append(" day ").append(in(25) ? up(1000) : up(days));
+        t.append(" pieces ").append(bounded(1, 9999, in(15) ? from(1, 9999) : from(1, 60)));
+        t.append(" price ").append(bounded(1, 9999, in(15) ? from(1, 9999) : price + up(15)));
+        t.append(" day ").append(bounded(0, 999, in(25) ? up(1000) : up(days)));
         if (in(6)) t.append(" bound");
-        if (in(5)) t.append(" royalty ").append(up(in(5) ? 100 : 10));
-        if (in(6)) t.append(" fee ").append(amount());
-        if (in(6)) t.append(" packing ").append(amount());
-        if (in(6)) t.append(" freight ").append(amount());
+        if (in(5)) t.append(" royalty ").append(bounded(0, 99, up(in(5) ? 100 : 10)));
+        if (in(6)) t.append(" fee ").append(amount(0));
+        if (in(6)) t.append(" packing ").append(amount(0));
+        if (in(6)) t.append(" freight ").append(amount(0));
         for (int k = 0; k < assists; k++) if (in(3)) t.append(" uses ").append(assist(in(12) ? up(assists) : k));
         return t.toString();
     }
@@ -137,6 +158,8 @@ public final class ModelTest {
         }
     }
 
+    private static final int[] RULE_MOST = {50, 999, 90, 99};
+
     private int sale() { return in(15) ? odd() : up(Math.max(1, m.count(3))); }
 
     private int odd() {
@@ -148,19 +171,20 @@ public final class ModelTest {
         int a, b, c, d;
         boolean is = in(2);
         switch (up(14)) {
-            case 0: case 1: a = sale(); b = in(9) ? odd() : in(3) ? from(1, 9999) : from(10, 230);
+            case 0: case 1: a = sale(); b = in(9) ? odd() : asked(1, 9999, in(3) ? from(1, 9999) : from(10, 230));
                 log("price", a, b); due("price", x.price(a, b), m.price(a, b)); break;
             case 2: a = sale(); log("bind", a, is ? 1 : 0); Check.due("bind", x.bind(a, is), m.bind(a, is)); break;
             case 3: case 4: a = in(15) ? odd() : up(6); b = in(15) ? odd() : up(6);
                 log("relate", a, b, is ? 1 : 0); Check.due("relate", x.relate(a, b, is), m.relate(a, b, is)); break;
-            case 5: case 6: a = in(15) ? odd() : up(4); b = in(9) ? odd() : up(a == 1 ? 200 : 52);
+            case 5: case 6: a = in(15) ? odd() : up(4); b = in(9) ? odd() : asked(a == 1 ? 1 : 0, RULE_MOST[Math.floorMod(a, 4)], up(a == 1 ? 200 : 52));
                 log("rule", a, b); due("rule", x.rule(a, b), m.rule(a, b)); break;
             case 7: log("turn"); due("turn", x.turn(), m.turn()); break;
-            case 8: a = in(15) ? odd() : up(5); b = in(15) ? odd() : from(1, 9); c = in(15) ? odd() : from(10, 220); d = in(15) ? odd() : up(120);
+            case 8: a = in(15) ? odd() : up(5); b = in(15) ? odd() : asked(1, 9999, from(1, 9));
+                c = in(15) ? odd() : asked(1, 9999, from(10, 220)); d = in(15) ? odd() : asked(0, 999, up(120));
                 log("resell", a, b, c, d); due("resell", x.resell(a, b, c, d), m.resell(a, b, c, d)); break;
-            case 9: a = in(15) ? odd() : up(4); b = in(6) ? odd() : in(4) ? 0 : up(120);
+            case 9: a = in(15) ? odd() : up(4); b = in(6) ? odd() : asked(0, 9999, in(4) ? 0 : up(120));
                 log("spread", a, b); due("spread", x.spread(a, b), m.spread(a, b)); break;
-            case 10: a = in(15) ? odd() : up(3); b = in(9) ? odd() : up(92);
+            case 10: a = in(15) ? odd() : up(3); b = in(9) ? odd() : asked(0, 90, up(92));
                 log("lessen", a, b); due("lessen", x.lessen(a, b), m.lessen(a, b)); break;
             case 11: case 12: log("undo"); due("undo", x.undo(), m.undo()); break;
             default: a = in(9) ? odd() : up(2);
