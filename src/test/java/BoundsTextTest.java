@@ -660,7 +660,10 @@ public final class BoundsTextTest {
             due("text(" + end + ")", x.text(end), isLine ? lines : Check.fault(end, 1));
             String cut = text.substring(0, end);
             due("'" + cut + "' and blanks", told(cut + " \n "), isLine ? lines : Check.fault(end + 3, 1));
-            due("'" + cut + "' and what is no TOKEN", told(cut + " A"), Check.fault(end + 1, 1));
+            // What is no TOKEN stands for nothing, wherever it is: not for a NAME, a NUMBER, a ; either.
+            for (String odd : new String[] {"A", "abcdefgh", "12345", "abcdefgh;", "12345;", "abcdefgh near 5;"}) {
+                due("'" + cut + "' and '" + odd + "'", told(cut + " " + odd), Check.fault(end + 1, 1));
+            }
         }
         due("LINES", lines, 14);
 
