@@ -8,6 +8,7 @@ import java.util.ArrayList;
 import java.util.IdentityHashMap;
 import java.util.List;
 import java.util.Map;
+import java.util.NoSuchElementException;
 import java.util.Set;
 import java.util.TreeSet;
 import java.util.regex.Matcher;
@@ -53,10 +54,16 @@ public final class FaceTest {
             for (Class<?> p : m.getParameterTypes()) t.append(t.charAt(t.length() - 1) == '(' ? "" : ",").append(p);
             got.add(t + ")");
             names.add(m.getName());
+            due(!Modifier.isStatic(m.getModifiers()), m + " is static");
+            List<Class<?>> thrown = m.getName().equals("sale") ? List.of(NoSuchElementException.class) : List.of();
+            due(List.of(m.getExceptionTypes()).equals(thrown), m + " tells of what it throws");
         }
         due(want.equals(got), "the face is " + got);
         due(c.getConstructors().length == 1 && c.getDeclaredConstructors().length == 1, "one constructor");
-        due(c.getField("NONE").getInt(null) == -1, "NONE");
+        due(c.getDeclaredConstructors()[0].getExceptionTypes().length == 0, "the constructor tells of nothing that it throws");
+        Field none = c.getField("NONE");
+        due(none.getType() == int.class && Modifier.isStatic(none.getModifiers()) && Modifier.isFinal(none.getModifiers()) && none.getInt(null) == -1, "NONE");
+        due(c.getFields().length == 1 && c.getClasses().length == 0 && c.getInterfaces().length == 0, "no other thing is public");
         for (Field f : c.getDeclaredFields()) {
             due(Modifier.isPrivate(f.getModifiers()) || f.getName().equals("NONE"), f + " is seen from outside");
             due(!Modifier.isStatic(f.getModifiers()) || Modifier.isFinal(f.getModifiers()), f + " is static, not final");
